@@ -1,9 +1,12 @@
 import java.util.Random;
+import java.util.function.Supplier;
 
 /** Runs of 512 calls, drawn from fixed seeds, on the class and on the model: every answer must be the same. */
 public final class ModelTest {
-    private static final int RUNS = 1500;
+    private static final int RUNS = 2000;
     private static final int CALLS = 512;
+    /** From this call on nothing is changed, and what the run has left is looked at. */
+    private static final int LOOKS_FROM = 432;
     private static final int[] PATHS = {1, 2, 4, 11, 12, 13, 111, 112, 124, 444};
     private static final int[] ODD = {0, -1, 5, 10, 21, 40, 45, 102, 120, 145, 445, 511, 1111, Integer.MAX_VALUE,
         Integer.MIN_VALUE};
@@ -36,7 +39,8 @@ public final class ModelTest {
     private boolean holds() {
         int mood = random.nextInt(4);
         for (int i = 0; i < CALLS; i++) {
-            if (!step(i % 97 == 96 ? random.nextInt(4) : mood)) {
+            boolean same = i < LOOKS_FROM ? step(i % 97 == 96 ? random.nextInt(4) : mood) : look();
+            if (!same) {
                 System.out.println(run + ", call " + i + ": " + call);
                 return false;
             }
@@ -68,7 +72,7 @@ public final class ModelTest {
         return odd() ? random.nextInt(30) - 3 : random.nextInt(Math.max(1, model.message(-1, 0)));
     }
 
-    private boolean same(String text, java.util.function.Supplier<Object> got, java.util.function.Supplier<Object> want) {
+    private boolean same(String text, Supplier<Object> got, Supplier<Object> want) {
         String wanted = Due.answer(want);
         String answered = Due.answer(got);
         call = text + " answered " + answered + ", due is " + wanted;
