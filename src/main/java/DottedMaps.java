@@ -13,7 +13,7 @@ public final class DottedMaps {
     private static final int LEAST_REPLICAS = 2;
     private static final int MOST_REPLICAS = 4;
     private static final int MOST_DOTS = 60;
-    private static final int MOST_PATH = 444;
+    private static final int MOST_PATH = 999;
     private static final int DIGITS = 4;
     private static final int LOG_DELTAS = 6;
     private static final int BUFFER_DELTAS = 12;
@@ -361,9 +361,9 @@ public final class DottedMaps {
 
     /** Path, kind and number of every dot that has been given: one entry has one dot everywhere. */
     private static final class Entries {
-        /** Bounds of the search for an int that no int reaches. */
-        static final long BELOW_ALL = Long.MIN_VALUE;
-        static final long ABOVE_ALL = Long.MAX_VALUE;
+        /** Bounds for the search among ints that no int reaches. */
+        static final long BELOW_ALL = -3_000_000_000L;
+        static final long ABOVE_ALL = 3_000_000_000L;
 
         final int[][] paths = new int[MOST_REPLICAS][MOST_DOTS + 1];
         final int[][] kinds = new int[MOST_REPLICAS][MOST_DOTS + 1];

@@ -148,6 +148,8 @@ public final class ChangesTest {
         due.is("7 what was taken out stays known", () -> maps.known(0, 0, 0), 8);
         DottedMaps deep = filled();
         due.is("7 erase at one digit", () -> deep.erase(0, 1), 6);
+        DottedMaps all = filled();
+        due.is("7 erase all of every length", () -> all.erase(0, 0), 7);
     }
 
     private void wrongArguments() {

@@ -187,6 +187,10 @@ public final class MessagesTest {
         due.is("13 the flag is known unseen", () -> maps.known(2, 0, 0), 1);
         due.is("13 what was taken out comes later", () -> maps.deliver(0), 2);
         due.is("13 and stays out", () -> maps.sees(2, 1, 1), false);
+        due.is("13 the one that put it up does not know yet", () -> maps.sees(0, 1, 1), true);
+        maps.gossip(1, 0);
+        due.is("13 a taking out of what is known is taken in", () -> maps.deliver(3), 1);
+        due.is("13 and takes it out", () -> maps.sees(0, 1, 1), false);
     }
 
     private void lose() {

@@ -17,6 +17,8 @@ public final class ModelTest {
     private final DottedMaps maps;
     private final Model model;
     private final String run;
+    /** Whether messages are rather sent twice than delivered, so that 24 are soon under way. */
+    private final boolean crowded;
     private String call;
 
     private ModelTest(int seed) {
@@ -24,6 +26,7 @@ public final class ModelTest {
         replicas = random.nextInt(6);
         maps = new DottedMaps(replicas);
         model = new Model(replicas);
+        crowded = random.nextInt(4) == 0;
         run = "run " + seed + " of " + replicas + " replicas";
     }
 
@@ -82,7 +85,7 @@ public final class ModelTest {
     /** A mood draws more changes, more messages, more failures, or all alike. */
     private boolean step(int mood) {
         int kindOfCall = random.nextInt(10);
-        if (mood == 0 && kindOfCall < 4 || kindOfCall < 2) {
+        if (mood == 0 && kindOfCall < 6 || kindOfCall < 2) {
             return change();
         }
         if (mood == 1 && kindOfCall < 7 || kindOfCall < 5) {
@@ -142,7 +145,10 @@ public final class ModelTest {
             case 4:
             case 5:
             case 6:
-                return same("deliver " + k, () -> maps.deliver(k), () -> model.deliver(k));
+                if (!crowded || twice) {
+                    return same("deliver " + k, () -> maps.deliver(k), () -> model.deliver(k));
+                }
+                return same("lose " + k + " true", () -> maps.lose(k, true), () -> model.lose(k, true));
             case 7:
                 return same("lose " + k + " " + twice, () -> maps.lose(k, twice), () -> model.lose(k, twice));
             default:
