@@ -31,6 +31,7 @@ public final class ModelTest {
     }
 
     public static void main(String[] args) {
+        Due.endInTime();
         for (int seed = 0; seed < RUNS; seed++) {
             if (!new ModelTest(seed).holds()) {
                 System.exit(1);
