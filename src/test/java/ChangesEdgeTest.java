@@ -53,13 +53,6 @@ public final class ChangesEdgeTest {
         }
     }
 
-    /** Sends all that replica r has to replica q, with no other message under way. */
-    private static void bring(DottedMaps maps, int r, int q) {
-        maps.gossip(r, q);
-        maps.deliver(0);
-        maps.deliver(0);
-    }
-
     /** "The STATE of a replica is a delta (empty at first)": all up, all empty. */
     private void newObject() {
         for (int many = 2; many <= 4; many++) {
@@ -139,10 +132,10 @@ public final class ChangesEdgeTest {
         for (int i = 0; i < 5; i++) {
             maps.count(1, 1, 1);
         }
-        bring(maps, 1, 0);
+        Worlds.bring(maps, 1, 0);
         due.is("2 five dots of another are known", () -> maps.known(0, 1, 2), 5);
         due.is("2 raise has its own first", () -> maps.raise(0, 1), 1);
-        bring(maps, 0, 2);
+        Worlds.bring(maps, 0, 2);
         due.is("3 write has its own first", () -> maps.write(2, 1, 1), 1);
         due.is("5 count goes on with its own", () -> maps.count(1, 1, 1), 6);
     }
@@ -252,10 +245,10 @@ public final class ChangesEdgeTest {
             int of = kind;
             make(maps, kind, 1, 2, 3);
             make(maps, kind, 2, 2, 3);
-            bring(maps, 1, 0);
+            Worlds.bring(maps, 1, 0);
             due.is(MAKERS[kind - 1] + " takes out what came", () -> make(maps, of, 0, 2, 3), 1);
             due.is(MAKERS[kind - 1] + ": one is alive", () -> maps.replica(0, 5), 1);
-            bring(maps, 2, 0);
+            Worlds.bring(maps, 2, 0);
             due.is(MAKERS[kind - 1] + ": what comes later is beside it", () -> maps.replica(0, 5), 2);
             due.is("6 clear takes out both", () -> maps.clear(0, 2, of), 2);
             due.is("8 the other still sees its own", () -> maps.sees(2, 2, of), true);
@@ -270,7 +263,7 @@ public final class ChangesEdgeTest {
             String name = MAKERS[kind - 1];
             make(maps, kind, 0, 2, 3);
             maps.clear(0, 2, kind);
-            bring(maps, 0, 1);
+            Worlds.bring(maps, 0, 1);
             make(maps, kind, 0, 2, 3);
             maps.gossip(0, 1);
             due.is(name + " after a clear knows its own dot alone", () -> maps.message(0, 5), 1);
@@ -288,7 +281,7 @@ public final class ChangesEdgeTest {
             maps.deliver(0);
             maps.deliver(0);
             make(maps, kind, 0, 2, 3);
-            bring(maps, 0, 1);
+            Worlds.bring(maps, 0, 1);
             maps.erase(0, 0);
             maps.gossip(0, 1);
             due.is("7 erase knows what it takes out alone", () -> maps.message(0, 5), 1);

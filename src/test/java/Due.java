@@ -5,7 +5,7 @@ import java.util.TreeSet;
 import java.util.function.Function;
 import java.util.function.Supplier;
 
-/** Holds the answers of calls against those that are due; the first word of a label is its promise. */
+/** Holds the answers of calls against those that are due; a label begins with the promise that it is about. */
 final class Due {
     static final String ILLEGAL_ARGUMENT = "throws.IllegalArgumentException";
     static final String ILLEGAL_STATE = "throws.IllegalStateException";

@@ -20,12 +20,6 @@ public final class InsideEdgeTest {
         test.due.end();
     }
 
-    private static void bring(DottedMaps maps, int r, int q) {
-        maps.gossip(r, q);
-        maps.deliver(0);
-        maps.deliver(0);
-    }
-
     private void told(String label, DottedMaps maps, int r, int... answers) {
         for (int what = 0; what < answers.length; what++) {
             int w = what;
@@ -46,7 +40,7 @@ public final class InsideEdgeTest {
         due.is("19 empty at first", () -> maps.replica(0, 2), 0);
         maps.raise(0, 1);
         due.is("19 one delta", () -> maps.replica(0, 2), 0);
-        bring(maps, 0, 1);
+        Worlds.bring(maps, 0, 1);
         maps.collect(0);
         due.is("19 empty when collected", () -> maps.replica(0, 2), 1);
         maps.raise(0, 1);
@@ -62,7 +56,7 @@ public final class InsideEdgeTest {
         for (int i = 0; i < 8; i++) {
             maps.write(1, 3, i);
         }
-        bring(maps, 1, 0);
+        Worlds.bring(maps, 1, 0);
         told("19 up", maps, 1, 1, 8, 0, 2, 9, 1, 0, 6, 1, 1, 8, 0, 0, 0, -1);
         maps.power(1, false);
         told("19 down", maps, 1, 0, -1, -1, 2, 9, -1, 0, 6, 1, 1, -1, -1, -1, -1, -1);
@@ -83,7 +77,7 @@ public final class InsideEdgeTest {
                 for (int q = 0; q < many; q++) {
                     maps.raise(r, 1);
                     if (q != r) {
-                        bring(maps, r, q);
+                        Worlds.bring(maps, r, q);
                     }
                 }
                 for (int q = 0; q < 6; q++) {
@@ -117,7 +111,7 @@ public final class InsideEdgeTest {
             known("20 " + many + " of its own", maps, 0, 0, many, many, many, many);
             known("20 of another", maps, 0, 1, 0, 0, 0, 0);
             if (many > 0) {
-                bring(maps, 0, 1);
+                Worlds.bring(maps, 0, 1);
             }
             known("20 " + many + " that came", maps, 1, 0, many, many, many, many);
             maps.erase(1, 0);
@@ -134,7 +128,7 @@ public final class InsideEdgeTest {
             }
         }
         for (int r = 1; r < 4; r++) {
-            bring(maps, r, 0);
+            Worlds.bring(maps, r, 0);
         }
         for (int q = 0; q < 4; q++) {
             known("20 of " + q, maps, 0, q, q + 1, q + 1, q + 1, 1);
@@ -146,7 +140,7 @@ public final class InsideEdgeTest {
     private void knownWhenDown() {
         DottedMaps maps = new DottedMaps(2);
         maps.raise(0, 1);
-        bring(maps, 0, 1);
+        Worlds.bring(maps, 0, 1);
         maps.power(0, false);
         due.refusesState("20 known to one that is down", () -> maps.known(0, 1, 0));
         due.refusesState("20 known to one that is down, of itself", () -> maps.known(0, 0, 0));
@@ -157,8 +151,8 @@ public final class InsideEdgeTest {
     private void joinAliveInBoth() {
         DottedMaps maps = new DottedMaps(3);
         maps.raise(0, 1);
-        bring(maps, 0, 1);
-        bring(maps, 0, 2);
+        Worlds.bring(maps, 0, 1);
+        Worlds.bring(maps, 0, 2);
         maps.raise(1, 2);
         maps.gossip(1, 2);
         due.is("13 both have the flag, one is new", () -> maps.deliver(0), 1);
@@ -184,7 +178,7 @@ public final class InsideEdgeTest {
     private void joinTakenOutByOne() {
         DottedMaps state = new DottedMaps(2);
         state.raise(0, 1);
-        bring(state, 0, 1);
+        Worlds.bring(state, 0, 1);
         state.clear(1, 1, 1);
         state.gossip(1, 0);
         due.is("13 alive in the state, known to the delta", () -> state.deliver(0), 1);
@@ -205,7 +199,7 @@ public final class InsideEdgeTest {
     private void joinTakenOutByBoth() {
         DottedMaps maps = new DottedMaps(2);
         maps.raise(0, 1);
-        bring(maps, 0, 1);
+        Worlds.bring(maps, 0, 1);
         maps.clear(0, 1, 1);
         maps.clear(1, 1, 1);
         maps.gossip(0, 1);
@@ -221,10 +215,10 @@ public final class InsideEdgeTest {
             maps.add(1, 12, 1);
             maps.add(0, 12, 2);
             maps.count(1, 3, 4);
-            bring(maps, first, 1 - first);
+            Worlds.bring(maps, first, 1 - first);
             maps.clear(1 - first, 12, 3);
-            bring(maps, 1 - first, first);
-            bring(maps, first, 1 - first);
+            Worlds.bring(maps, 1 - first, first);
+            Worlds.bring(maps, first, 1 - first);
             for (int r = 0; r <= 1; r++) {
                 int by = r;
                 String at = " at " + r + ", first " + first;

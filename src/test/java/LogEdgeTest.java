@@ -36,11 +36,6 @@ public final class LogEdgeTest {
         }
     }
 
-    private static void restart(DottedMaps maps, int r) {
-        maps.power(r, false);
-        maps.power(r, true);
-    }
-
     /** NEXT of slot 0 and 1, whether they are whole, the deltas of the log, the writes of replica r. */
     private void slots(String label, DottedMaps maps, int r, int... answers) {
         int[] whats = {6, 7, 8, 9, 3, 4};
@@ -191,7 +186,7 @@ public final class LogEdgeTest {
         maps.power(0, true);
         due.is("16 slot 0 is written", () -> maps.checkpoint(0), 3);
         slots("16 it is whole", maps, 0, 3, 2, 1, 1, 0, 7);
-        restart(maps, 0);
+        Worlds.restart(maps, 0);
         due.is("17 NEXT from slot 0", () -> maps.replica(0, 1), 3);
         due.is("17 the state from slot 0", () -> maps.sum(0, 1), 3);
     }
@@ -261,13 +256,13 @@ public final class LogEdgeTest {
             int last = checkpoints;
             slots("17 after " + checkpoints, maps, 0, checkpoints % 2 == 0 ? last : last - 1,
                 checkpoints % 2 == 0 ? last - 1 : last, 1, 1, 0);
-            restart(maps, 0);
+            Worlds.restart(maps, 0);
             due.is("17 NEXT of the later slot", () -> maps.replica(0, 1), last);
             due.is("17 its register", () -> maps.value(0, 12, 0), last);
             due.is("17 and no other", () -> maps.replica(0, 5), 1);
             due.is("17 what was taken out is known", () -> maps.known(0, 0, 0), last);
             maps.clear(0, 12, 2);
-            restart(maps, 0);
+            Worlds.restart(maps, 0);
             due.is("17 what the log takes out of it is out", () -> maps.replica(0, 5), 0);
             due.is("17 NEXT with the log", () -> maps.replica(0, 1), last + 1);
         }
@@ -277,11 +272,11 @@ public final class LogEdgeTest {
     private void comingUpFromSlotsAlike() {
         for (int next : new int[] {0, 1, 5}) {
             DottedMaps maps = alike(next);
-            restart(maps, 0);
+            Worlds.restart(maps, 0);
             due.is("17 NEXT of slots alike", () -> maps.replica(0, 1), next);
             due.is("17 the state of slots alike", () -> maps.sum(0, 1), next);
             count(maps, 2);
-            restart(maps, 0);
+            Worlds.restart(maps, 0);
             due.is("17 NEXT of slots alike with a log", () -> maps.replica(0, 1), next + 2);
             due.is("17 the state of slots alike with a log", () -> maps.sum(0, 1), next + 2);
         }
@@ -303,7 +298,7 @@ public final class LogEdgeTest {
         due.is("17 its ack for 1 before", () -> maps.replica(0, 11), 3);
         due.is("17 its ack for 2 before", () -> maps.replica(0, 12), 3);
         due.is("17 the first of its buffer before", () -> maps.replica(0, 2), 0);
-        restart(maps, 0);
+        Worlds.restart(maps, 0);
         due.is("17 its ack for 1", () -> maps.replica(0, 11), 0);
         due.is("17 its ack for 2", () -> maps.replica(0, 12), 0);
         due.is("17 the first of its buffer", () -> maps.replica(0, 2), 4);
@@ -326,7 +321,7 @@ public final class LogEdgeTest {
         }
         maps.checkpoint(0);
         maps.add(0, 12, 4);
-        restart(maps, 0);
+        Worlds.restart(maps, 0);
         due.is("17 the element is there", () -> maps.sees(0, 12, 14), true);
         due.is("17 once", () -> maps.replica(0, 5), 1);
         due.is("17 what was taken out of 1 is known", () -> maps.known(0, 1, 2), 1);

@@ -43,19 +43,6 @@ public final class MessagesEdgeTest {
         }
     }
 
-    /** Replica r sends to q what there is, and hears that it arrived; no other message is under way. */
-    private static void bring(DottedMaps maps, int r, int q) {
-        if (maps.gossip(r, q) != 0) {
-            maps.deliver(0);
-            maps.deliver(0);
-        }
-    }
-
-    private static void restart(DottedMaps maps, int r) {
-        maps.power(r, false);
-        maps.power(r, true);
-    }
-
     private void told(String label, DottedMaps maps, int k, int... answers) {
         for (int what = 0; what < answers.length; what++) {
             int w = what;
@@ -67,7 +54,7 @@ public final class MessagesEdgeTest {
     private void ackNotBelowNext() {
         for (int next : new int[] {0, 1, 2, 12, 13, 20}) {
             DottedMaps maps = counted(next);
-            bring(maps, 0, 1);
+            Worlds.bring(maps, 0, 1);
             due.is("12 ack at NEXT " + next, () -> maps.replica(0, 11), next);
             due.is("12 gossip with the ack at NEXT " + next, () -> maps.gossip(0, 1), 0);
             due.is("12 sends nothing", () -> maps.message(-1, 0), 0);
@@ -82,7 +69,7 @@ public final class MessagesEdgeTest {
         for (int ack = 0; ack <= 12; ack++) {
             for (int more = 1; more <= 12; more++) {
                 DottedMaps maps = counted(ack);
-                bring(maps, 0, 1);
+                Worlds.bring(maps, 0, 1);
                 count(maps, 0, more);
                 String at = " from " + ack + ", " + more + " more";
                 due.is("12 gossip" + at, () -> maps.gossip(0, 1), 1);
@@ -91,7 +78,7 @@ public final class MessagesEdgeTest {
         }
         DottedMaps maps = new DottedMaps(3);
         count(maps, 0, 2);
-        bring(maps, 0, 1);
+        Worlds.bring(maps, 0, 1);
         maps.erase(0, 0);
         due.is("12 gossip of a taking out", () -> maps.gossip(0, 1), 1);
         told("12 the taken out are known to it", maps, 0, 1, 0, 1, 3, 0, 2);
@@ -115,7 +102,7 @@ public final class MessagesEdgeTest {
     private void ackAtTheEndOfTheBuffer() {
         for (int ack = 1; ack <= 5; ack++) {
             DottedMaps maps = counted(ack);
-            bring(maps, 0, 1);
+            Worlds.bring(maps, 0, 1);
             count(maps, 0, 12);
             int first = ack;
             due.is("12 the first of the buffer", () -> maps.replica(0, 2), first);
@@ -130,12 +117,12 @@ public final class MessagesEdgeTest {
     /** "the buffer is empty (as if all deltas before NEXT had gone from it), all acks are 0". */
     private void afterComingUp() {
         DottedMaps none = new DottedMaps(2);
-        restart(none, 0);
+        Worlds.restart(none, 0);
         due.is("12 gossip after coming up with nothing", () -> none.gossip(0, 1), 0);
         DottedMaps maps = counted(3);
-        bring(maps, 0, 1);
+        Worlds.bring(maps, 0, 1);
         due.is("12 gossip before going down", () -> maps.gossip(0, 1), 0);
-        restart(maps, 0);
+        Worlds.restart(maps, 0);
         due.is("12 gossip after coming up", () -> maps.gossip(0, 1), 2);
         told("12 it is the state", maps, 0, 1, 0, 1, 3, 3, 3);
         count(maps, 0, 1);
@@ -155,7 +142,7 @@ public final class MessagesEdgeTest {
             maps.gossip(0, 1);
             maps.deliver(0);
             count(maps, 0, since);
-            restart(maps, 0);
+            Worlds.restart(maps, 0);
             due.is("13 the late ACK", () -> maps.deliver(0), 3);
             due.is("13 the ack is its number", () -> maps.replica(0, 11), 3);
             due.is("12 gossip with " + since + " since", () -> maps.gossip(0, 1), since == 0 ? 0 : 2);
@@ -173,7 +160,7 @@ public final class MessagesEdgeTest {
             maps.erase(0, 0);
             maps.write(0, 2, 5);
             told("12 what is under way stays as it was", maps, 0, 1, 0, 1, many, many, many);
-            restart(maps, 0);
+            Worlds.restart(maps, 0);
             maps.power(0, false);
             due.is("13 it comes from one that is down", () -> maps.deliver(0), 1);
             due.is("9 as it was sent", () -> maps.sum(1, 1), many);
@@ -267,7 +254,7 @@ public final class MessagesEdgeTest {
     /** Alive alone: what was known is taken out. */
     private void deliverChangesWhatIsAlive() {
         DottedMaps maps = counted(2);
-        bring(maps, 0, 1);
+        Worlds.bring(maps, 0, 1);
         maps.clear(0, 1, 4);
         maps.gossip(0, 1);
         due.is("13 deliver a taking out", () -> maps.deliver(0), 1);
@@ -444,10 +431,10 @@ public final class MessagesEdgeTest {
         for (int n = 1; n <= 4; n++) {
             maps.count(r, 1, 1);
             if (n == one) {
-                bring(maps, r, q);
+                Worlds.bring(maps, r, q);
             }
             if (n == two) {
-                bring(maps, r, (r + 2) % 3);
+                Worlds.bring(maps, r, (r + 2) % 3);
             }
         }
         int least = Math.min(one, two);
@@ -466,7 +453,7 @@ public final class MessagesEdgeTest {
     private void collectOfAFullBuffer() {
         for (int ack : new int[] {1, 2, 3, 4, 14}) {
             DottedMaps maps = counted(ack);
-            bring(maps, 0, 1);
+            Worlds.bring(maps, 0, 1);
             count(maps, 0, 14 - ack);
             due.is("15 the first of the buffer is 2", () -> maps.replica(0, 2), 2);
             due.is("15 collect by ack " + ack, () -> maps.collect(0), Math.max(0, ack - 2));
@@ -475,8 +462,8 @@ public final class MessagesEdgeTest {
             due.is("15 and one more in the buffer", () -> maps.replica(0, 2), Math.max(3, ack));
         }
         DottedMaps maps = counted(5);
-        bring(maps, 0, 1);
-        restart(maps, 0);
+        Worlds.bring(maps, 0, 1);
+        Worlds.restart(maps, 0);
         due.is("15 collect after coming up", () -> maps.collect(0), 0);
         count(maps, 0, 1);
         due.is("15 collect with acks of 0", () -> maps.collect(0), 0);
@@ -493,7 +480,7 @@ public final class MessagesEdgeTest {
                 for (int i = 0; i < 3; i++) {
                     int q = (r + 1 + (turn + i) % 3) % 4;
                     due.is("15 collect before " + q + " has heard of " + r, () -> maps.collect(by), 0);
-                    bring(maps, r, q);
+                    Worlds.bring(maps, r, q);
                 }
                 due.is("15 collect when all have heard", () -> maps.collect(by), 1);
                 due.is("15 the buffer is empty", () -> maps.replica(by, 2), 1);

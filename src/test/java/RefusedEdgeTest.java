@@ -3,7 +3,7 @@ import java.util.function.Function;
 import java.util.function.Supplier;
 
 /**
- * Every refused call: what it throws or answers, and that it changes nothing else. "Every method tests
+ * Refused calls of every method: what they throw or answer, and that they change nothing else. "Every method tests
  * first whether its arguments are as said, then whether the replica is up where one is needed. A method
  * that throws changes nothing else than what a failure leaves."
  */

@@ -34,12 +34,6 @@ public final class SightEdgeTest {
         }
     }
 
-    private static void bring(DottedMaps maps, int r, int q) {
-        maps.gossip(r, q);
-        maps.deliver(0);
-        maps.deliver(0);
-    }
-
     /** Replica 0 of four has the register of each replica at path 3, each written unseen by the others. */
     private static DottedMaps written(int... numbers) {
         DottedMaps maps = new DottedMaps(4);
@@ -47,7 +41,7 @@ public final class SightEdgeTest {
             maps.write(r, 3, numbers[r]);
         }
         for (int r = 1; r < numbers.length; r++) {
-            bring(maps, r, 0);
+            Worlds.bring(maps, r, 0);
         }
         return maps;
     }
@@ -119,7 +113,7 @@ public final class SightEdgeTest {
         DottedMaps maps = new DottedMaps(2);
         maps.count(0, 3, MOST);
         maps.count(1, 3, MOST);
-        bring(maps, 1, 0);
+        Worlds.bring(maps, 1, 0);
         due.is("9 sum of two replicas wraps", () -> maps.sum(0, 3), -2);
         due.is("9 sum of one does not", () -> maps.sum(1, 3), MOST);
     }
@@ -239,11 +233,11 @@ public final class SightEdgeTest {
                 : of == 3 ? maps.add(0, 123, 0) : maps.count(0, 123, 1), 1);
             due.is("11 keys of kind " + kind, () -> maps.keys(0, 12), 8);
             due.is("11 keys at the other replica", () -> maps.keys(1, 12), 0);
-            bring(maps, 0, 1);
+            Worlds.bring(maps, 0, 1);
             maps.clear(0, 123, kind);
             due.is("11 keys of what is taken out", () -> maps.keys(0, 12), 0);
             due.is("11 keys where that has not come", () -> maps.keys(1, 12), 8);
-            bring(maps, 0, 1);
+            Worlds.bring(maps, 0, 1);
             due.is("11 keys where it has come", () -> maps.keys(1, 12), 0);
         }
     }

@@ -13,13 +13,6 @@ public final class SightTest {
         test.due.end();
     }
 
-    /** Sends all that replica r has to replica q, and its ACK back, with no other message under way. */
-    private static void bring(DottedMaps maps, int r, int q) {
-        maps.gossip(r, q);
-        maps.deliver(0);
-        maps.deliver(0);
-    }
-
     private void sees() {
         DottedMaps maps = new DottedMaps(2);
         maps.raise(0, 1);
@@ -54,7 +47,7 @@ public final class SightTest {
         due.is("9 sum wraps", () -> maps.sum(0, 1), Integer.MIN_VALUE + 1);
         due.is("9 sum at just a path", () -> maps.sum(0, 11), 50);
         maps.count(1, 11, -60);
-        bring(maps, 0, 1);
+        Worlds.bring(maps, 0, 1);
         due.is("9 sum of both replicas", () -> maps.sum(1, 11), -10);
         due.is("9 sum of one", () -> maps.sum(0, 11), 50);
     }
@@ -69,9 +62,9 @@ public final class SightTest {
         maps.write(0, 11, 6);
         maps.add(0, 1, 7);
         maps.count(0, 1, 8);
-        bring(maps, 1, 0);
-        bring(maps, 2, 0);
-        bring(maps, 3, 0);
+        Worlds.bring(maps, 1, 0);
+        Worlds.bring(maps, 2, 0);
+        Worlds.bring(maps, 3, 0);
         due.is("10 value: four registers are alive", () -> maps.replica(0, 5), 7);
         due.is("10 value 0", () -> maps.value(0, 1, 0), Integer.MIN_VALUE);
         due.is("10 value 1", () -> maps.value(0, 1, 1), 5);

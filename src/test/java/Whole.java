@@ -3,7 +3,8 @@ import java.util.Map;
 import java.util.function.Supplier;
 
 /**
- * All that calls of the face can find out about an object: each call with its answer.
+ * An object seen from many sides: calls of the face, also after coming up and after all messages are
+ * delivered, each with its answer.
  *
  * <p>An object is good for 512 calls, and some looks change it: so each look is taken at an object of
  * its own, made anew in the same way (which may take 150 calls).

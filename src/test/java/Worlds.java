@@ -1,6 +1,19 @@
-/** Objects in states at which calls are refused; each is made by fewer than 150 calls. */
+/** Objects in the states that tests begin with, each made by fewer than 150 calls; and calls that go together. */
 final class Worlds {
     private Worlds() { }
+
+    /** Replica r sends to q what there is, and hears that it arrived; no other message is under way. */
+    static void bring(DottedMaps maps, int r, int q) {
+        if (maps.gossip(r, q) != 0) {
+            maps.deliver(0);
+            maps.deliver(0);
+        }
+    }
+
+    static void restart(DottedMaps maps, int r) {
+        maps.power(r, false);
+        maps.power(r, true);
+    }
 
     /**
      * Three replicas with all kinds of entries, acks, whole slots, and a failure set for a later write of
